@@ -184,7 +184,7 @@ public final class Exportcover {
 
     public int policy(int exporter, int cover, int rival, int quota) {
         Exporter holder = exporterAt(exporter);
-        demandIndex(isWithin(rival, NONE, 1));
+        demandRival(rival);
         demandArgument(isWithin(cover, 50, 95));
         demandArgument(isWithin(quota, 0, rival == NONE ? 0 : 60));
         demandState(policies.size() < MOST_POLICIES);
@@ -493,9 +493,9 @@ public final class Exportcover {
         return number >= least && number <= most;
     }
 
-    private static void demandIndex(boolean isFine) {
-        if (!isFine) {
-            throw new IndexOutOfBoundsException("there is no such one");
+    private static void demandRival(int rival) {
+        if (!isWithin(rival, NONE, 1)) {
+            throw new IndexOutOfBoundsException("there is no such rival");
         }
     }
 
@@ -517,27 +517,37 @@ public final class Exportcover {
     }
 
     private Land landAt(int land) {
-        demandIndex(land >= 0 && land < lands.size());
+        if (land < 0 || land >= lands.size()) {
+            throw new IndexOutOfBoundsException("there is no such land");
+        }
         return lands.get(land);
     }
 
     private Buyer buyerAt(int buyer) {
-        demandIndex(buyer >= 0 && buyer < buyers.size());
+        if (buyer < 0 || buyer >= buyers.size()) {
+            throw new IndexOutOfBoundsException("there is no such buyer");
+        }
         return buyers.get(buyer);
     }
 
     private Exporter exporterAt(int exporter) {
-        demandIndex(exporter >= 0 && exporter < exporters.size());
+        if (exporter < 0 || exporter >= exporters.size()) {
+            throw new IndexOutOfBoundsException("there is no such exporter");
+        }
         return exporters.get(exporter);
     }
 
     private Policy policyAt(int policy) {
-        demandIndex(policy >= 0 && policy < policies.size());
+        if (policy < 0 || policy >= policies.size()) {
+            throw new IndexOutOfBoundsException("there is no such policy");
+        }
         return policies.get(policy);
     }
 
     private Shipment shipmentAt(int shipment) {
-        demandIndex(shipment >= 0 && shipment < shipments.size());
+        if (shipment < 0 || shipment >= shipments.size()) {
+            throw new IndexOutOfBoundsException("there is no such shipment");
+        }
         return shipments.get(shipment);
     }
 

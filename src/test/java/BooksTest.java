@@ -149,5 +149,10 @@ public final class BooksTest {
         y.knock();
         check.due("digest", y.digest(), Digests.reckoned(y));
         check.due("digest again", y.digest(), y.digest());
+        for (int risk = 999; risk <= 1001; risk++) {
+            Exportcover z = Office.plain();
+            z.ship(0, 0, risk, 30, false);
+            check.due("digest with " + risk + " AT RISK", z.digest(), Digests.reckoned(z));
+        }
     }
 }

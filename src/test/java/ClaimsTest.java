@@ -259,7 +259,8 @@ public final class ClaimsTest {
         Exportcover least = Office.plain();
         least.ship(0, 0, 1, 30, false);
         least.pass(210);
-        least.report(0);
+        check.due("CAUSE of a cent", least.ofShipment(0, 10), 1);
+        check.due("report of a cent", least.report(0), 1);
         check.due("claim of a cent", least.claim(0), 0);
         check.due("CLAIMED", least.ofShipment(0, 11), 5);
         check.due("PART of the EXPORTER", least.part(0, 0, false), 1);

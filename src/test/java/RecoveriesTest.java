@@ -199,6 +199,13 @@ public final class RecoveriesTest {
         check.due("LEFT", x.ofShipment(0, 5), 3);
         x.pass(1);
         check.due("LEFT", x.ofShipment(0, 5), 0);
+
+        Exportcover cent = Office.plain();
+        cent.ship(0, 0, 1, 30, false);
+        cent.pass(30);
+        cent.club(0, 100, 1);
+        cent.pass(330);
+        check.due("LEFT of a cent", cent.ofShipment(0, 5), 0);
     }
 
     /** LOSS 1000, PARTS 370, 441 and 189; 600 OWED in 3 years. */
