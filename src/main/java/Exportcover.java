@@ -64,7 +64,7 @@ public final class Exportcover {
 
     // ---- lands, buyers, exporters
 
-    public int market(int seed) {
+    public int market(int seed) throws IllegalArgumentException, IllegalStateException {
         demandArgument(isWithin(seed, 0, TOP_SEED));
         demandState(lands.isEmpty() && buyers.isEmpty() && exporters.isEmpty());
         int drawn = seed;
@@ -90,13 +90,13 @@ public final class Exportcover {
         return ceilings;
     }
 
-    public int land(int grade, int ceiling) {
+    public int land(int grade, int ceiling) throws IllegalArgumentException, IllegalStateException {
         demandArgument(isWithin(grade, 0, TOP_CLASS) && isWithin(ceiling, 0, TOP_CEILING));
         demandState(lands.size() < MOST_LANDS);
         return addLand(grade, ceiling).number;
     }
 
-    public int vote(int land, int one, int two, int three) {
+    public int vote(int land, int one, int two, int three) throws IndexOutOfBoundsException, IllegalArgumentException {
         Land voted = landAt(land);
         demandArgument(isWithin(one, 0, TOP_CLASS));
         demandArgument(isWithin(two, 0, TOP_CLASS));
@@ -105,7 +105,7 @@ public final class Exportcover {
         return voted.grade;
     }
 
-    public int ceiling(int land, int ceiling) {
+    public int ceiling(int land, int ceiling) throws IndexOutOfBoundsException, IllegalArgumentException {
         Land told = landAt(land);
         demandArgument(isWithin(ceiling, 0, TOP_CEILING));
         int before = told.ceiling;
@@ -113,54 +113,54 @@ public final class Exportcover {
         return before;
     }
 
-    public boolean close(int land, boolean is) {
+    public boolean close(int land, boolean is) throws IndexOutOfBoundsException {
         Land told = landAt(land);
         boolean was = told.isClosed;
         told.isClosed = is;
         return was;
     }
 
-    public int stop(int land, boolean is) {
+    public int stop(int land, boolean is) throws IndexOutOfBoundsException {
         Land told = landAt(land);
         int before = told.stoppedSince;
         told.stoppedSince = since(before, is);
         return before;
     }
 
-    public int war(int land, boolean is) {
+    public int war(int land, boolean is) throws IndexOutOfBoundsException {
         Land told = landAt(land);
         int before = told.warSince;
         told.warSince = since(before, is);
         return before;
     }
 
-    public int buyer(int land, int grade) {
+    public int buyer(int land, int grade) throws IndexOutOfBoundsException, IllegalArgumentException, IllegalStateException {
         Land home = landAt(land);
         demandArgument(isWithin(grade, 0, TOP_GRADE));
         demandState(buyers.size() < MOST_BUYERS);
         return addBuyer(home, grade).number;
     }
 
-    public int earn(int buyer, int amount) {
+    public int earn(int buyer, int amount) throws IndexOutOfBoundsException, IllegalArgumentException {
         Buyer earner = buyerAt(buyer);
         demandArgument(isWithin(amount, 1, TOP_AMOUNT));
         world.giveTo(earner.chest, amount);
         return earner.chest.cents;
     }
 
-    public boolean broke(int buyer) {
+    public boolean broke(int buyer) throws IndexOutOfBoundsException {
         Buyer told = buyerAt(buyer);
         boolean was = told.isBroke();
         told.brokeOn = since(told.brokeOn, true);
         return was;
     }
 
-    public int exporter() {
+    public int exporter() throws IllegalStateException {
         demandState(exporters.size() < MOST_EXPORTERS);
         return addExporter().number;
     }
 
-    public int link(int exporter, int buyer, boolean isOwned) {
+    public int link(int exporter, int buyer, boolean isOwned) throws IndexOutOfBoundsException {
         Exporter linked = exporterAt(exporter);
         int one = 1 << buyerAt(buyer).number;
         if (isOwned) {
@@ -173,7 +173,7 @@ public final class Exportcover {
 
     // ---- policies and shipments
 
-    public int notice(int land, int rate) {
+    public int notice(int land, int rate) throws IndexOutOfBoundsException, IllegalArgumentException {
         Land told = landAt(land);
         demandArgument(isWithin(rate, 1, TOP_RATE));
         int before = told.noticeOn(day);
@@ -182,7 +182,7 @@ public final class Exportcover {
         return before;
     }
 
-    public int policy(int exporter, int cover, int rival, int quota) {
+    public int policy(int exporter, int cover, int rival, int quota) throws IndexOutOfBoundsException, IllegalArgumentException, IllegalStateException {
         Exporter holder = exporterAt(exporter);
         demandRival(rival);
         demandArgument(isWithin(cover, 50, 95));
@@ -193,7 +193,7 @@ public final class Exportcover {
         return written.number;
     }
 
-    public int limit(int policy, int buyer, int asked) {
+    public int limit(int policy, int buyer, int asked) throws IndexOutOfBoundsException, IllegalArgumentException, IllegalStateException {
         Policy told = policyAt(policy);
         Buyer of = buyerAt(buyer);
         demandArgument(isWithin(asked, 0, TOP_AMOUNT));
@@ -203,7 +203,7 @@ public final class Exportcover {
         return told.grantedFor(of.number);
     }
 
-    public int cut(int policy, int buyer, int to) {
+    public int cut(int policy, int buyer, int to) throws IndexOutOfBoundsException, IllegalArgumentException {
         Policy told = policyAt(policy);
         Buyer of = buyerAt(buyer);
         demandArgument(to >= 0);
@@ -212,7 +212,7 @@ public final class Exportcover {
         return before - told.grantedFor(of.number);
     }
 
-    public int ship(int policy, int buyer, int amount, int term, boolean isFake) {
+    public int ship(int policy, int buyer, int amount, int term, boolean isFake) throws IndexOutOfBoundsException, IllegalArgumentException, IllegalStateException {
         Policy under = policyAt(policy);
         Buyer to = buyerAt(buyer);
         demandGoods(amount, term);
@@ -227,7 +227,7 @@ public final class Exportcover {
         return shipments.size() - 1;
     }
 
-    public int pay(int buyer, int amount) {
+    public int pay(int buyer, int amount) throws IndexOutOfBoundsException, IllegalArgumentException, IllegalStateException {
         Buyer payer = buyerAt(buyer);
         demandArgument(isWithin(amount, 1, TOP_AMOUNT));
         demandState(payer.canPay());
@@ -245,21 +245,21 @@ public final class Exportcover {
         return paid;
     }
 
-    public int report(int shipment) {
+    public int report(int shipment) throws IndexOutOfBoundsException, IllegalStateException {
         Shipment told = shipmentAt(shipment);
         demandState(day >= told.due && told.left > 0 && !told.isReported);
         told.isReported = true;
         return told.causeOn(day);
     }
 
-    public int dispute(int shipment) {
+    public int dispute(int shipment) throws IndexOutOfBoundsException, IllegalStateException {
         Shipment told = shipmentAt(shipment);
         demandState(told.isOpen() && !told.isDisputed);
         told.isDisputed = true;
         return told.insured;
     }
 
-    public int judge(int shipment, boolean isForExporter) {
+    public int judge(int shipment, boolean isForExporter) throws IndexOutOfBoundsException, IllegalStateException {
         Shipment judged = shipmentAt(shipment);
         demandState(judged.isDisputed);
         judged.isDisputed = false;
@@ -269,7 +269,7 @@ public final class Exportcover {
         return judged.insured;
     }
 
-    public int claim(int shipment) {
+    public int claim(int shipment) throws IndexOutOfBoundsException, IllegalStateException {
         Shipment lost = shipmentAt(shipment);
         int from = lost.claimableFrom();
         demandState(lost.isReported && from != NONE && day >= from);
@@ -283,7 +283,7 @@ public final class Exportcover {
         return gross;
     }
 
-    public int salvage(int shipment, int amount) {
+    public int salvage(int shipment, int amount) throws IndexOutOfBoundsException, IllegalArgumentException, IllegalStateException {
         Shipment found = shipmentAt(shipment);
         demandArgument(isWithin(amount, 1, TOP_AMOUNT));
         demandState(found.damage != null && !found.isVoid);
@@ -292,7 +292,7 @@ public final class Exportcover {
         return saved;
     }
 
-    public int club(int land, int hundredths, int years) {
+    public int club(int land, int hundredths, int years) throws IndexOutOfBoundsException, IllegalArgumentException {
         Land debtor = landAt(land);
         demandArgument(isWithin(hundredths, 10, 100) && isWithin(years, 1, 10));
         int count = 0;
@@ -306,7 +306,7 @@ public final class Exportcover {
         return count;
     }
 
-    public boolean inspect(int shipment) {
+    public boolean inspect(int shipment) throws IndexOutOfBoundsException, IllegalStateException {
         Shipment seen = shipmentAt(shipment);
         demandState(!seen.isVoid);
         if (!seen.isFake) {
@@ -318,7 +318,7 @@ public final class Exportcover {
         return true;
     }
 
-    public int bribe(int exporter) {
+    public int bribe(int exporter) throws IndexOutOfBoundsException {
         Exporter briber = exporterAt(exporter);
         int ended = 0;
         for (int i = 0; i < policies.size(); i++) {
@@ -331,7 +331,7 @@ public final class Exportcover {
         return ended;
     }
 
-    public int pass(int days) {
+    public int pass(int days) throws IllegalArgumentException, IllegalStateException {
         demandArgument(isWithin(days, 1, 720));
         demandState(day + days <= LAST_DAY);
         for (int i = 0; i < days; i++) {
@@ -351,54 +351,54 @@ public final class Exportcover {
 
     // ---- what is asked
 
-    public int ofLand(int land, int what) {
+    public int ofLand(int land, int what) throws IndexOutOfBoundsException, IllegalArgumentException {
         Land asked = landAt(land);
         demandArgument(isWithin(what, 0, FIGURES_OF_LAND - 1));
         return figureOfLand(asked, what);
     }
 
-    public int ofBuyer(int buyer, int what) {
+    public int ofBuyer(int buyer, int what) throws IndexOutOfBoundsException, IllegalArgumentException {
         Buyer asked = buyerAt(buyer);
         demandArgument(isWithin(what, 0, FIGURES_OF_BUYER - 1));
         return figureOfBuyer(asked, what);
     }
 
-    public int ofExporter(int exporter, int what) {
+    public int ofExporter(int exporter, int what) throws IndexOutOfBoundsException, IllegalArgumentException {
         Exporter asked = exporterAt(exporter);
         demandArgument(isWithin(what, 0, FIGURES_OF_EXPORTER - 1));
         return figureOfExporter(asked, what);
     }
 
-    public int ofPolicy(int policy, int what) {
+    public int ofPolicy(int policy, int what) throws IndexOutOfBoundsException, IllegalArgumentException {
         Policy asked = policyAt(policy);
         demandArgument(isWithin(what, 0, FIGURES_OF_POLICY - 1));
         return figureOfPolicy(asked, what);
     }
 
-    public int granted(int policy, int buyer, boolean isGranted) {
+    public int granted(int policy, int buyer, boolean isGranted) throws IndexOutOfBoundsException {
         Policy asked = policyAt(policy);
         Buyer of = buyerAt(buyer);
         return isGranted ? asked.grantedFor(of.number) : riskUnder(asked, of);
     }
 
-    public int ofShipment(int shipment, int what) {
+    public int ofShipment(int shipment, int what) throws IndexOutOfBoundsException, IllegalArgumentException {
         Shipment asked = shipmentAt(shipment);
         demandArgument(isWithin(what, 0, FIGURES_OF_SHIPMENT - 1));
         return figureOfShipment(asked, what);
     }
 
-    public int part(int shipment, int whose, boolean isHad) {
+    public int part(int shipment, int whose, boolean isHad) throws IndexOutOfBoundsException, IllegalArgumentException {
         Shipment asked = shipmentAt(shipment);
         demandArgument(isWithin(whose, 0, PARTIES - 1));
         return figureOfPart(asked, whose, isHad);
     }
 
-    public int books(int what) {
+    public int books(int what) throws IllegalArgumentException {
         demandArgument(isWithin(what, 0, FIGURES_OF_BOOKS - 1));
         return figureOfBooks(what);
     }
 
-    public String slip(int shipment) {
+    public String slip(int shipment) throws IndexOutOfBoundsException {
         Shipment asked = shipmentAt(shipment);
         StringBuilder paper = new StringBuilder();
         writeSlip(paper, shipment, asked);
@@ -407,21 +407,21 @@ public final class Exportcover {
 
     // ---- what would be (nothing is changed)
 
-    public int rate(int land, int grade, int term) {
+    public int rate(int land, int grade, int term) throws IndexOutOfBoundsException, IllegalArgumentException {
         Land asked = landAt(land);
         demandArgument(isWithin(grade, 0, TOP_GRADE));
         demandArgument(isWithin(term, SHORTEST_TERM, LONGEST_TERM));
         return asked.rateOn(day, grade, term);
     }
 
-    public int wouldInsure(int policy, int buyer, int amount, int term, boolean isReason) {
+    public int wouldInsure(int policy, int buyer, int amount, int term, boolean isReason) throws IndexOutOfBoundsException, IllegalArgumentException {
         Policy under = policyAt(policy);
         Buyer to = buyerAt(buyer);
         demandGoods(amount, term);
         return isReason ? reasonOf(under, to, amount, term) : insuredOf(under, to, amount, term);
     }
 
-    public int when(int shipment) {
+    public int when(int shipment) throws IndexOutOfBoundsException {
         return shipmentAt(shipment).claimableFrom();
     }
 
@@ -444,7 +444,7 @@ public final class Exportcover {
         return sum;
     }
 
-    public double probable(int amount) {
+    public double probable(int amount) throws IllegalArgumentException {
         demandArgument(amount >= 0);
         int[] risks = new int[MOST_LANDS];
         for (int i = 0; i < lands.size() && i < risks.length; i++) {
