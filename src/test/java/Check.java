@@ -4,8 +4,22 @@ final class Check {
         Object answer();
     }
 
+    interface CallOf {
+        Object answer(int number);
+    }
+
     private int wrong;
     private int asked;
+    private String about = "";
+
+    /** What is tried from now on: it is told ahead of each answer that is not as due. */
+    void about(String tried) {
+        about = tried + ": ";
+    }
+
+    int asked() {
+        return asked;
+    }
 
     void due(String what, long got, long want) {
         asked++;
@@ -44,10 +58,32 @@ final class Check {
         dueThrow(x, what, call, IllegalStateException.class);
     }
 
+    /** There are so many, numbered from 0: what lies beside these numbers is none of them. */
+    void noIndexBeside(Exportcover x, String what, int count, CallOf call) {
+        int[] beside = {Integer.MIN_VALUE, -1, count, count + 1, Integer.MAX_VALUE};
+        for (int number : beside) {
+            noIndex(x, what + " of " + number, () -> call.answer(number));
+        }
+    }
+
+    /** What lies beside these bounds is too small, or too large. */
+    void noArgumentBeside(Exportcover x, String what, int least, int most, CallOf call) {
+        int[] beside = {Integer.MIN_VALUE, least - 1, most + 1, Integer.MAX_VALUE};
+        for (int number : beside) {
+            noArgument(x, what + " of " + number, () -> call.answer(number));
+        }
+    }
+
     /** The very class is due, none below it, and nothing may be changed by the call. */
     private void dueThrow(Exportcover x, String what, Call call, Class<?> want) {
-        asked++;
         long before = x.digest();
+        dueThrow(what, call, want);
+        due(what + " left the digest", x.digest(), before);
+    }
+
+    /** The very class is due, none below it. */
+    void dueThrow(String what, Call call, Class<?> want) {
+        asked++;
         try {
             tell(what + " answered " + call.answer() + ", due is " + want.getSimpleName());
         } catch (RuntimeException thrown) {
@@ -55,12 +91,11 @@ final class Check {
                 tell(what + " threw " + thrown + ", due is " + want.getSimpleName());
             }
         }
-        due(what + " left the digest", x.digest(), before);
     }
 
     private void tell(String line) {
         wrong++;
-        System.out.println(line);
+        System.out.println(about + line);
     }
 
     void end() {

@@ -1,15 +1,25 @@
+import java.util.ArrayList;
+import java.util.List;
+
 /** Reckons the digest from the public answers, as promise 46 tells it. */
 final class Digests {
-    private long d = 58265;
+    static final long START = 58265;
+
+    private final List<Long> values = new ArrayList<>();
 
     private Digests() {
     }
 
-    private void add(long v) {
-        d = d * 31 + v;
+    static long reckoned(Exportcover x) {
+        long d = START;
+        for (long v : values(x)) {
+            d = d * 31 + v;
+        }
+        return d;
     }
 
-    static long reckoned(Exportcover x) {
+    /** What goes into the digest, in its order. */
+    static List<Long> values(Exportcover x) {
         Digests sum = new Digests();
         for (int what = 0; what <= 19; what++) {
             sum.add(x.books(what));
@@ -21,7 +31,11 @@ final class Digests {
         sum.add((long) (1024 * x.expected()));
         sum.add((long) (1024 * x.probable(1000)));
         sum.add(x.isSound() ? 1 : 0);
-        return sum.d;
+        return sum.values;
+    }
+
+    private void add(long v) {
+        values.add(v);
     }
 
     private void addPeople(Exportcover x) {
