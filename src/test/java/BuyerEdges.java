@@ -45,8 +45,8 @@ final class BuyerEdges {
     }
 
     private void atMostTwelve() {
-        Check check = said.chapter(2, "BUYERS: at most 12, numbered from 0, each in a LAND, with a GRADE (0 to 5) "
-            + "and the DAY on which it went BROKE (NONE at first).");
+        Check check = said.chapter(2, "BUYERS: at most 12, numbered from 0, each in a LAND, with a GRADE (0 to 5) and "
+            + "the DAY on which it went BROKE (NONE at first).");
         Exportcover x = new Exportcover();
         for (int i = 0; i < 5; i++) {
             x.land(0, 0);
@@ -303,8 +303,8 @@ final class BuyerEdges {
     }
 
     private void whatOfABuyer() {
-        Check check = said.promise(31, "0 its LAND, 1 GRADE, 2 the DAY on which it went BROKE (NONE), 3 its CHEST, "
-            + "4 1 if it CAN PAY, otherwise 0, 5 LEFT of all its SHIPMENTS that are neither FAKE nor VOID, together");
+        Check check = said.promise(31, "0 its LAND, 1 GRADE, 2 the DAY on which it went BROKE (NONE), 3 its CHEST, 4 1 "
+            + "if it CAN PAY, otherwise 0, 5 LEFT of all its SHIPMENTS that are neither FAKE nor VOID, together");
         Exportcover x = Office.plain();
         x.buyer(0, 5);
         dueBuyer(check, x, 0, 0, -1, 0, 1, 0);
@@ -349,8 +349,8 @@ final class BuyerEdges {
     }
 
     private void whatOfAnExporter() {
-        Check check = said.promise(32, "0 its CHEST, 1 the set of BUYERS that it OWNS, 2 of those that SELL to it, "
-            + "3 how many of its POLICIES are not ENDED, 4 how many SHIPMENTS it has, 5 1 if it is in a CIRCLE, "
+        Check check = said.promise(32, "0 its CHEST, 1 the set of BUYERS that it OWNS, 2 of those that SELL to it, 3 "
+            + "how many of its POLICIES are not ENDED, 4 how many SHIPMENTS it has, 5 1 if it is in a CIRCLE, "
             + "otherwise 0");
         Exportcover x = new Exportcover();
         x.exporter();

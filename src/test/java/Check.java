@@ -74,14 +74,7 @@ final class Check {
         }
     }
 
-    /** The very class is due, none below it, and nothing may be changed by the call. */
-    private void dueThrow(Exportcover x, String what, Call call, Class<?> want) {
-        long before = x.digest();
-        dueThrow(what, call, want);
-        due(what + " left the digest", x.digest(), before);
-    }
-
-    /** The very class is due, none below it. */
+    /** The very class is due, none below it, and thrown by the class's own words. */
     void dueThrow(String what, Call call, Class<?> want) {
         asked++;
         try {
@@ -90,7 +83,27 @@ final class Check {
             if (thrown.getClass() != want) {
                 tell(what + " threw " + thrown + ", due is " + want.getSimpleName());
             }
+            if (!isWritten(thrown)) {
+                tell(what + " let the machine throw " + thrown);
+            }
         }
+    }
+
+    /** Likewise, and nothing may be changed by the call. */
+    private void dueThrow(Exportcover x, String what, Call call, Class<?> want) {
+        long before = x.digest();
+        dueThrow(what, call, want);
+        due(what + " left the digest", x.digest(), before);
+    }
+
+    /** What the machine throws comes out of another method than the guards: demand.. and ..At. */
+    static boolean isWritten(RuntimeException thrown) {
+        StackTraceElement[] trace = thrown.getStackTrace();
+        if (trace.length == 0 || !trace[0].getClassName().equals("Exportcover")) {
+            return false;
+        }
+        String name = trace[0].getMethodName();
+        return name.startsWith("demand") || name.endsWith("At");
     }
 
     private void tell(String line) {

@@ -58,9 +58,9 @@ final class ClaimEdges {
     }
 
     private void political() {
-        Check check = said.chapter(5, "CAUSE of a SHIPMENT that is DUE (DAY is DUE or more) with LEFT above 0: with b as the "
-            + "DAY on which the BUYER went BROKE and p as TROUBLE of the LAND: 2 (political), if there is p, p is no more "
-            + "than DUE, and either there is no b, or b is not below p;");
+        Check check = said.chapter(5, "CAUSE of a SHIPMENT that is DUE (DAY is DUE or more) with LEFT above 0: with b "
+            + "as the DAY on which the BUYER went BROKE and p as TROUBLE of the LAND: 2 (political), if there is p, p "
+            + "is no more than DUE, and either there is no b, or b is not below p;");
         check.due("TROUBLE on DAY 0", onDays(0, -1).ofShipment(0, 10), 2);
         check.due("TROUBLE on DUE", onDays(30, -1).ofShipment(0, 10), 2);
         check.due("BROKE on the same DAY", onDays(30, 30).ofShipment(0, 10), 2);
@@ -161,8 +161,8 @@ final class ClaimEdges {
     }
 
     private void judgedForTheBuyer() {
-        Check check = said.chapter(5, "It can be in DISPUTE (told by a call), till that is judged: for the EXPORTER, or for "
-            + "the BUYER (INSURED is 0 from then on;");
+        Check check = said.chapter(5, "It can be in DISPUTE (told by a call), till that is judged: for the EXPORTER, "
+            + "or for the BUYER (INSURED is 0 from then on;");
         Exportcover x = Office.reported(1000, 180);
         x.dispute(0);
         check.due("in DISPUTE", x.ofShipment(0, 11) & 2, 2);
@@ -199,8 +199,8 @@ final class ClaimEdges {
 
     /** All but one of what a CLAIM asks for, each time another one. */
     private void toClaim() {
-        Check check = said.chapter(5, "To CLAIM for a SHIPMENT: it is OPEN, REPORTED, not in DISPUTE, LEFT and INSURED are "
-            + "above 0, and DAY is no less than DUE and WAITING (of CAUSE as it is now) together: LOSS is LEFT;");
+        Check check = said.chapter(5, "To CLAIM for a SHIPMENT: it is OPEN, REPORTED, not in DISPUTE, LEFT and INSURED "
+            + "are above 0, and DAY is no less than DUE and WAITING (of CAUSE as it is now) together: LOSS is LEFT;");
         Exportcover all = Office.reported(1000, 180);
         all.earn(0, 999);
         all.pay(0, 999);
@@ -446,8 +446,9 @@ final class ClaimEdges {
     }
 
     private void fromWhenOn() {
-        Check check = said.promise(41, "Returns the DAY from which on one could CLAIM for it, as all is now (DUE and WAITING "
-            + "of CAUSE, together, with CAUSE as it would be on the DAY on which it is DUE, or as it is now, if that was);");
+        Check check = said.promise(41, "Returns the DAY from which on one could CLAIM for it, as all is now (DUE and "
+            + "WAITING of CAUSE, together, with CAUSE as it would be on the DAY on which it is DUE, or as it is now, "
+            + "if that was);");
         Exportcover x = Office.plain();
         x.ship(0, 0, 10, 30, false);
         check.due("when on DAY 0", x.when(0), 30 + 180);

@@ -88,7 +88,7 @@ public final class FaceTest {
         }
     }
 
-    /** The head as the code block has it, for example "public boolean broke(int buyer) throws IndexOutOfBoundsException". */
+    /** The head as the code block has it: "public boolean broke(int buyer) throws IndexOutOfBoundsException". */
     private static String headOf(Executable declared, String typeAndName) {
         StringBuilder head = new StringBuilder(Modifier.toString(declared.getModifiers()));
         head.append(' ').append(typeAndName).append('(');

@@ -35,8 +35,8 @@ final class FakeEdges {
     }
 
     private void stepsOfGoods() {
-        Check check = said.chapter(7, "GOODS go from an EXPORTER to a BUYER, if there is a SHIPMENT of one of its POLICIES to "
-            + "that one, and from a BUYER to an EXPORTER, if it SELLS to it, or if that one OWNS it.");
+        Check check = said.chapter(7, "GOODS go from an EXPORTER to a BUYER, if there is a SHIPMENT of one of its "
+            + "POLICIES to that one, and from a BUYER to an EXPORTER, if it SELLS to it, or if that one OWNS it.");
         Exportcover x = pairs(2);
         x.policy(0, 50, -1, 0);
         x.limit(0, 0, 1);
@@ -79,6 +79,20 @@ final class FakeEdges {
         ahead.ship(1, 1, 1, 30, false);
         ahead.link(1, 1, true);
         check.due("who only leads into a CIRCLE is not in it", ahead.circles(), 2);
+        Exportcover forked = pairs(4);
+        forked.ship(0, 0, 1, 30, false);
+        forked.ship(0, 1, 1, 30, false);
+        forked.link(1, 0, true);
+        forked.ship(1, 2, 1, 30, false);
+        forked.link(2, 1, true);
+        forked.ship(2, 3, 1, 30, false);
+        check.due("two ways that do not come back", forked.circles(), 0);
+        forked.link(0, 3, true);
+        check.due("the second way comes back", forked.circles(), 1 + 4);
+        check.due("SUSPECT", forked.books(18), 2);
+        forked.link(0, 2, false);
+        check.due("both ways come back", forked.circles(), 1 + 2 + 4);
+        check.due("SUSPECT", forked.books(18), 4);
     }
 
     private void suspects() {
@@ -122,8 +136,8 @@ final class FakeEdges {
     }
 
     private void paidBack() {
-        Check check = said.chapter(7, "if it is CLAIMED also (it stays so), the EXPORTER pays GROSS back to the OFFICE, which "
-            + "pays SHARE back to the RIVAL.");
+        Check check = said.chapter(7, "if it is CLAIMED also (it stays so), the EXPORTER pays GROSS back to the "
+            + "OFFICE, which pays SHARE back to the RIVAL.");
         Exportcover x = Office.claimedFake();
         x.inspect(0);
         check.due("CLAIMED and VOID", x.ofShipment(0, 11), 1 + 4 + 16 + 32);
@@ -151,7 +165,8 @@ final class FakeEdges {
     }
 
     private void bribed() {
-        Check check = said.chapter(7, "BRIBES of an EXPORTER: all its POLICIES are ENDED (SHIPMENTS stay as they are).");
+        Check check = said.chapter(7,
+            "BRIBES of an EXPORTER: all its POLICIES are ENDED (SHIPMENTS stay as they are).");
         Exportcover x = Office.reported(1000, 180);
         x.exporter();
         x.policy(1, 50, -1, 0);

@@ -168,8 +168,8 @@ final class LandEdges {
     }
 
     private void rowOfASeed() {
-        Check check = said.chapter(2, "A ROW of a SEED (0 to 99): the first number of it is (27 * SEED + 29) modulo 101, "
-            + "each later one (27 * the number ahead of it + 29) modulo 101;");
+        Check check = said.chapter(2, "A ROW of a SEED (0 to 99): the first number of it is (27 * SEED + 29) modulo "
+            + "101, each later one (27 * the number ahead of it + 29) modulo 101;");
         Exportcover least = new Exportcover();
         least.market(0);
         check.due("CLASS out of 29", least.ofLand(0, 0), 29 % 8);
@@ -197,8 +197,8 @@ final class LandEdges {
     }
 
     private void marketOfLands() {
-        Check check = said.chapter(2, "To found a MARKET by a SEED, as long as there are no LANDS, BUYERS and EXPORTERS: "
-            + "3 LANDS, each with a CLASS drawn modulo 8 and a CEILING of 200 * drawn;");
+        Check check = said.chapter(2, "To found a MARKET by a SEED, as long as there are no LANDS, BUYERS and "
+            + "EXPORTERS: 3 LANDS, each with a CLASS drawn modulo 8 and a CEILING of 200 * drawn;");
         int leastCeiling = Integer.MAX_VALUE;
         int mostCeiling = 0;
         for (int seed = 0; seed <= 99; seed++) {

@@ -29,7 +29,8 @@ final class PaymentEdges {
     }
 
     private void forWhatOnePays() {
-        Check check = said.chapter(4, "What a BUYER pays goes to its SHIPMENTS that are neither FAKE nor VOID nor PUT OFF");
+        Check check = said.chapter(4,
+            "What a BUYER pays goes to its SHIPMENTS that are neither FAKE nor VOID nor PUT OFF");
         Exportcover none = Office.plain();
         none.earn(0, 9);
         check.due("pay without a SHIPMENT", none.pay(0, 9), 0);
@@ -86,6 +87,14 @@ final class PaymentEdges {
         x.pay(0, 99999);
         dueLeft(check, x, 0, 0);
         check.due("CHEST", x.ofBuyer(0, 3), 79);
+        for (int amount = 9; amount <= 21; amount++) {
+            Exportcover both = Office.plain();
+            both.ship(0, 0, 10, 30, false);
+            both.ship(0, 0, 10, 31, false);
+            both.earn(0, 99);
+            check.due("pay of " + amount, both.pay(0, amount), Math.min(20, amount));
+            dueLeft(check, both, Math.max(0, 10 - amount), Math.max(0, Math.min(10, 20 - amount)));
+        }
     }
 
     private void recoveryOrExporter() {

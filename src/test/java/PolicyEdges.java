@@ -278,8 +278,8 @@ final class PolicyEdges {
     }
 
     private void whatOfAPolicy() {
-        Check check = said.promise(33, "0 its EXPORTER, 1 COVER, 2 RIVAL (NONE), 3 QUOTA, 4 1 if ENDED, otherwise 0, "
-            + "5 how many SHIPMENTS it has, 6 what PREMIUM of all its SHIPMENTS is together (not net)");
+        Check check = said.promise(33, "0 its EXPORTER, 1 COVER, 2 RIVAL (NONE), 3 QUOTA, 4 1 if ENDED, otherwise 0, 5 "
+            + "how many SHIPMENTS it has, 6 what PREMIUM of all its SHIPMENTS is together (not net)");
         Exportcover x = new Exportcover();
         x.land(7, 999999);
         x.buyer(0, 0);

@@ -109,19 +109,9 @@ public final class RandomRunsTest {
             boolean isNamed = kind == IndexOutOfBoundsException.class || kind == IllegalArgumentException.class
                 || kind == IllegalStateException.class;
             check.due("call " + which + " threw what is named, not " + thrown, isNamed, true);
-            check.due("it was thrown by the class's own words", isWritten(thrown), true);
+            check.due("it was thrown by the class's own words", Check.isWritten(thrown), true);
             return true;
         }
-    }
-
-    /** What the machine throws comes out of another method than the guards: demand.. and ..At. */
-    private static boolean isWritten(RuntimeException thrown) {
-        StackTraceElement[] trace = thrown.getStackTrace();
-        if (trace.length == 0 || !trace[0].getClassName().equals("Exportcover")) {
-            return false;
-        }
-        String name = trace[0].getMethodName();
-        return name.startsWith("demand") || name.endsWith("At");
     }
 
     private void tell(int which) {

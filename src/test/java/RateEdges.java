@@ -31,7 +31,8 @@ final class RateEdges {
     }
 
     private void rateOfANotice() {
-        Check check = said.chapter(3, "A NOTICE can be told for a LAND: that a rival breaks the terms, with a RATE (1 to 999);");
+        Check check = said.chapter(3,
+            "A NOTICE can be told for a LAND: that a rival breaks the terms, with a RATE (1 to 999);");
         Exportcover x = ofClass(7);
         x.notice(0, 1);
         check.due("the least RATE", x.rate(0, 5, 3600), 1);
@@ -84,8 +85,8 @@ final class RateEdges {
     }
 
     private void leastAndHighestRate() {
-        Check check = said.chapter(3, "RATE (in 10000 parts) of a LAND, a BUYER's GRADE and a TERM: "
-            + "8 + 3 * CLASS * CLASS + (CLASS + 1) * HORIZON + 4 * GRADE;");
+        Check check = said.chapter(3, "RATE (in 10000 parts) of a LAND, a BUYER's GRADE and a TERM: 8 + 3 * CLASS * "
+            + "CLASS + (CLASS + 1) * HORIZON + 4 * GRADE;");
         check.due("the least RATE", ofClass(0).rate(0, 0, 30), 9);
         check.due("the highest RATE", ofClass(7).rate(0, 5, 3600), 8 + 147 + 160 + 20);
         check.due("RATE of CLASS 7", ofClass(7).rate(0, 0, 30), 8 + 147 + 8);

@@ -39,7 +39,8 @@ final class RecoveryEdges {
     }
 
     private void allRecoveries() {
-        Check check = said.chapter(6, "RECOVERED of a SHIPMENT that is CLAIMED: all RECOVERIES together (LEFT is less by each).");
+        Check check = said.chapter(6,
+            "RECOVERED of a SHIPMENT that is CLAIMED: all RECOVERIES together (LEFT is less by each).");
         Exportcover x = Office.claimed();
         check.due("RECOVERED at first", x.ofShipment(0, 14), 0);
         x.salvage(0, 100);
@@ -60,9 +61,9 @@ final class RecoveryEdges {
 
     /** With the 16th cent the OFFICE gets its 7th one, and the RIVAL its third one. */
     private void restOfARecovery() {
-        Check check = said.chapter(6, "With each one the RIVAL and the OFFICE are paid up to what RECOVERED * PART / LOSS "
-            + "tells (of each, with RECOVERED as it is then), and the EXPORTER gets the rest of that RECOVERY (if that is "
-            + "below 0, it pays that).");
+        Check check = said.chapter(6, "With each one the RIVAL and the OFFICE are paid up to what RECOVERED * PART / "
+            + "LOSS tells (of each, with RECOVERED as it is then), and the EXPORTER gets the rest of that RECOVERY (if "
+            + "that is below 0, it pays that).");
         Exportcover x = Office.claimed();
         x.salvage(0, 15);
         int office = x.books(7);
@@ -107,8 +108,8 @@ final class RecoveryEdges {
     }
 
     private void salvageLeftAtMost() {
-        Check check = said.chapter(6,
-            "SALVAGE: a RECOVERY that comes from the WORLD, by a call, for one that is CLAIMED and not VOID (LEFT at most).");
+        Check check = said.chapter(6, "SALVAGE: a RECOVERY that comes from the WORLD, by a call, for one that is "
+            + "CLAIMED and not VOID (LEFT at most).");
         Exportcover x = Office.claimed();
         check.due("salvage of more than is LEFT", x.salvage(0, 1001), 1000);
         check.due("the WORLD", x.books(10), -1000);
@@ -123,8 +124,8 @@ final class RecoveryEdges {
     }
 
     private void putOffByTheClub() {
-        Check check = said.chapter(6, "The CLUB puts off debts of a LAND: each SHIPMENT to a BUYER there that is neither FAKE "
-            + "nor VOID nor PUT OFF, with LEFT above 0 and DUE on that DAY or earlier, is PUT OFF");
+        Check check = said.chapter(6, "The CLUB puts off debts of a LAND: each SHIPMENT to a BUYER there that is "
+            + "neither FAKE nor VOID nor PUT OFF, with LEFT above 0 and DUE on that DAY or earlier, is PUT OFF");
         Exportcover x = Office.plain();
         x.land(0, 0);
         x.buyer(1, 0);
@@ -156,8 +157,8 @@ final class RecoveryEdges {
     }
 
     private void forgiven() {
-        Check check = said.chapter(6, "of LEFT what is more than OWED, which is LEFT * (so many hundredths) / 100, is FORGIVEN "
-            + "(LEFT is OWED then).");
+        Check check = said.chapter(6, "of LEFT what is more than OWED, which is LEFT * (so many hundredths) / 100, is "
+            + "FORGIVEN (LEFT is OWED then).");
         int[][] rows = {{1000, 100, 1000}, {1000, 10, 100}, {999, 99, 989}, {999, 10, 99}, {9, 10, 0}, {10, 10, 1},
             {1, 99, 0}, {1, 100, 1}, {99999, 100, 99999}, {99999, 99, 98999}};
         for (int[] each : rows) {
@@ -171,8 +172,8 @@ final class RecoveryEdges {
     }
 
     private void asAYearBegins() {
-        Check check = said.chapter(6, "As a YEAR begins, behind what is DUE on that DAY, SHIPMENT by SHIPMENT that is PUT OFF "
-            + "and not VOID, with LEFT above 0, whose LAND is not at WAR: OWED / YEARS comes from the WORLD");
+        Check check = said.chapter(6, "As a YEAR begins, behind what is DUE on that DAY, SHIPMENT by SHIPMENT that is "
+            + "PUT OFF and not VOID, with LEFT above 0, whose LAND is not at WAR: OWED / YEARS comes from the WORLD");
         Exportcover x = Office.due(1000);
         x.club(0, 100, 3);
         x.broke(0);

@@ -254,6 +254,7 @@ final class RefusalEdges {
         check.dueThrow("notice", () -> x.notice(5, 0), INDEX);
         check.dueThrow("policy of none, of COVER 0", () -> x.policy(6, 0, 0, 0), INDEX);
         check.dueThrow("policy of none", () -> x.policy(6, 50, 0, 0), INDEX);
+        check.dueThrow("policy of RIVAL 2, of COVER 49", () -> x.policy(0, 49, 2, 0), INDEX);
         check.dueThrow("policy of RIVAL 2, of QUOTA 61", () -> x.policy(0, 50, 2, 61), INDEX);
         check.dueThrow("policy of RIVAL -2", () -> x.policy(0, 50, -2, 0), INDEX);
         check.dueThrow("policy of COVER 96", () -> x.policy(0, 96, 0, 0), ARGUMENT);

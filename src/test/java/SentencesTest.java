@@ -55,6 +55,7 @@ public final class SentencesTest {
         new RecoveryEdges(said).run();
         new FakeEdges(said).run();
         new BookEdges(said).run();
+        new SoundnessEdges(said).run();
         new RefusalEdges(said).run();
         said.nameNoEdge(PLAIN);
         said.dueAllQuoted();

@@ -209,8 +209,8 @@ final class ShipmentEdges {
     }
 
     private void overdueDays() {
-        Check check = said.chapter(4, "5 cover is STOPPED: a SHIPMENT of that POLICY to that BUYER is OVERDUE "
-            + "(DAY is more than DUE and 60 together, and LEFT is above 0;");
+        Check check = said.chapter(4, "5 cover is STOPPED: a SHIPMENT of that POLICY to that BUYER is OVERDUE (DAY is "
+            + "more than DUE and 60 together, and LEFT is above 0;");
         dueAgainst(check, against(5), 5);
         Exportcover x = Office.plain();
         x.buyer(0, 0);
@@ -282,8 +282,8 @@ final class ShipmentEdges {
     }
 
     private void roomAndSpaceAtLeast() {
-        Check check = said.chapter(4, "Otherwise ROOM is GRANTED less what is AT RISK under that POLICY for that BUYER, "
-            + "and SPACE is the CEILING of the LAND less what is AT RISK there (each 0 at least);");
+        Check check = said.chapter(4, "Otherwise ROOM is GRANTED less what is AT RISK under that POLICY for that "
+            + "BUYER, and SPACE is the CEILING of the LAND less what is AT RISK there (each 0 at least);");
         Exportcover x = Office.plain();
         x.ship(0, 0, 600, 30, false);
         x.cut(0, 0, 601);
@@ -338,8 +338,8 @@ final class ShipmentEdges {
     }
 
     private void atRiskOfOne() {
-        Check check = said.chapter(4, "AT RISK of a SHIPMENT is the smaller one of INSURED and LEFT, as long as it is OPEN "
-            + "(neither CLAIMED nor PUT OFF nor VOID);");
+        Check check = said.chapter(4, "AT RISK of a SHIPMENT is the smaller one of INSURED and LEFT, as long as it is "
+            + "OPEN (neither CLAIMED nor PUT OFF nor VOID);");
         Exportcover x = Office.plain();
         x.limit(0, 0, 400);
         x.ship(0, 0, 1000, 30, false);
@@ -364,7 +364,8 @@ final class ShipmentEdges {
     }
 
     private void atRiskTogether() {
-        Check check = said.chapter(4, "AT RISK under a POLICY for a BUYER, and in a LAND, is that of all such together.");
+        Check check = said.chapter(4,
+            "AT RISK under a POLICY for a BUYER, and in a LAND, is that of all such together.");
         Exportcover x = Office.plain();
         x.land(0, 999999);
         x.buyer(0, 0);
@@ -390,8 +391,8 @@ final class ShipmentEdges {
     }
 
     private void premiumOfLittle() {
-        Check check = said.chapter(4,
-            "PREMIUM: INSURED * RATE / 10000, and 1, if that is 0 and INSURED is not: the EXPORTER pays it to the OFFICE;");
+        Check check = said.chapter(4, "PREMIUM: INSURED * RATE / 10000, and 1, if that is 0 and INSURED is not: the "
+            + "EXPORTER pays it to the OFFICE;");
         int[][] rows = {{0, 0}, {1, 1}, {4999, 1}, {5000, 1}, {9999, 1}, {10000, 2}, {12000, 2}};
         for (int[] each : rows) {
             Exportcover x = Office.plain();
@@ -408,15 +409,16 @@ final class ShipmentEdges {
 
     private void premiumOfTheRival() {
         Check check = said.chapter(4, "of it the OFFICE pays PREMIUM * QUOTA / 100 to the RIVAL.");
-        int[][] rows = {{1, 60, 0}, {5000, 60, 0}, {10000, 49, 0}, {10000, 50, 1}, {10000, 60, 1}, {10000, 0, 0}};
+        int[][] rows = {{1, 60, 0}, {3333, 60, 0}, {6667, 49, 0}, {6667, 50, 1}, {10000, 0, 0}, {10000, 33, 0},
+            {10000, 34, 1}, {10000, 60, 1}};
         for (int[] each : rows) {
             Exportcover x = Office.plain();
             x.policy(0, 50, 1, each[1]);
             x.limit(1, 0, 12000);
-            x.notice(0, 2);
+            x.notice(0, 3);
             x.ship(1, 0, each[0], 30, false);
             int premium = x.ofShipment(0, 9);
-            check.due("PREMIUM", premium, each[0] == 10000 ? 2 : 1);
+            check.due("PREMIUM", premium, Math.max(1, each[0] * 3 / 10000));
             check.due("CHEST of the RIVAL", x.books(9), each[2]);
             check.due("CHEST of the other RIVAL", x.books(8), 0);
             check.due("CHEST of the OFFICE", x.books(7), premium - each[2]);
@@ -507,9 +509,9 @@ final class ShipmentEdges {
 
     private void whatOfAShipment() {
         Check check = said.promise(35, "0 its POLICY, 1 BUYER, 2 AMOUNT, 3 the DAY on which it SAILED, 4 DUE, 5 LEFT, "
-            + "6 INSURED, 7 REASON, 8 RATE, 9 PREMIUM, 10 CAUSE, 11 the set of 1 REPORTED, 2 in DISPUTE, 4 CLAIMED, "
-            + "8 PUT OFF, 16 VOID, 32 FAKE (added up), 12 LOSS, 13 GROSS (12 and 13: 0, if it is not CLAIMED), "
-            + "14 RECOVERED, 15 FORGIVEN, 16 OWED (0, if it is not PUT OFF)");
+            + "6 INSURED, 7 REASON, 8 RATE, 9 PREMIUM, 10 CAUSE, 11 the set of 1 REPORTED, 2 in DISPUTE, 4 CLAIMED, 8 "
+            + "PUT OFF, 16 VOID, 32 FAKE (added up), 12 LOSS, 13 GROSS (12 and 13: 0, if it is not CLAIMED), 14 "
+            + "RECOVERED, 15 FORGIVEN, 16 OWED (0, if it is not PUT OFF)");
         Exportcover x = Office.plain();
         x.limit(0, 0, 700);
         x.ship(0, 0, 1000, 30, false);
@@ -570,9 +572,9 @@ final class ShipmentEdges {
     private void wouldInsureOfNobody() {
         Check check = said.promise(40, "Throws `IndexOutOfBoundsException` if there is no such POLICY, or BUYER");
         Exportcover none = withoutPolicy();
-        check.noIndexBeside(none, "wouldInsure without a POLICY", 0, policy -> none.wouldInsure(policy, 0, 1, 30, true));
+        check.noIndexBeside(none, "wouldInsure without a POLICY", 0, p -> none.wouldInsure(p, 0, 1, 30, true));
         Exportcover alone = withoutBuyer();
-        check.noIndexBeside(alone, "wouldInsure without a BUYER", 0, buyer -> alone.wouldInsure(0, buyer, 1, 30, true));
+        check.noIndexBeside(alone, "wouldInsure without a BUYER", 0, b -> alone.wouldInsure(0, b, 1, 30, true));
         Exportcover x = Office.plain();
         check.noIndexBeside(x, "wouldInsure, POLICY", 1, policy -> x.wouldInsure(policy, 0, 1, 30, false));
         check.noIndexBeside(x, "wouldInsure, BUYER", 1, buyer -> x.wouldInsure(0, buyer, 1, 30, false));
