@@ -33,6 +33,7 @@ final class ClaimEdges {
         insuredThen();
         judgeOfNone();
         whatCanNotBeJudged();
+        whatCanBeJudged();
         grossOfAClaim();
         claimOfNone();
         whatCanNotBeClaimed();
@@ -411,6 +412,39 @@ final class ClaimEdges {
         x.judge(0, true);
         check.noState(x, "judge of one judged", () -> x.judge(0, false));
         check.due("INSURED", x.ofShipment(0, 6), 1);
+    }
+
+    /** Only that it is in DISPUTE counts: not what became of it since. */
+    private void whatCanBeJudged() {
+        Check check = said.promise(22, "if it is not in DISPUTE");
+        Exportcover x = Office.plain();
+        x.ship(0, 0, 10, 30, true);
+        x.ship(0, 0, 20, 30, false);
+        x.ship(0, 0, 40, 30, false);
+        x.ship(0, 0, 80, 30, false);
+        for (int shipment = 0; shipment < 4; shipment++) {
+            x.dispute(shipment);
+        }
+        x.earn(0, 20);
+        x.pass(30);
+        x.inspect(0);
+        check.due("marks of one VOID since", x.ofShipment(0, 11), 2 + 16 + 32);
+        check.due("LEFT of one paid since", x.ofShipment(1, 5), 0);
+        x.club(0, 50, 2);
+        check.due("marks of one PUT OFF since", x.ofShipment(2, 11), 2 + 8);
+        check.due("judge of one VOID since", x.judge(0, true), 10);
+        check.due("judge of one paid since", x.judge(1, false), 0);
+        check.due("judge of one PUT OFF since", x.judge(2, true), 40);
+        check.due("judge of another one PUT OFF since, for the BUYER", x.judge(3, false), 0);
+        int[] marks = {16 + 32, 0, 8, 8};
+        int[] insured = {10, 0, 40, 0};
+        for (int shipment = 0; shipment < 4; shipment++) {
+            int judged = shipment;
+            check.due("marks of the judged " + judged, x.ofShipment(judged, 11), marks[judged]);
+            check.due("INSURED of the judged " + judged, x.ofShipment(judged, 6), insured[judged]);
+            check.noState(x, "judge of the judged " + judged, () -> x.judge(judged, false));
+        }
+        check.due("isSound", x.isSound(), true);
     }
 
     private void grossOfAClaim() {

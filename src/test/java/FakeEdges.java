@@ -8,6 +8,7 @@ final class FakeEdges {
 
     void run() {
         stepsOfGoods();
+        goodsOfAnyShipment();
         backToItself();
         suspects();
         inspected();
@@ -57,6 +58,33 @@ final class FakeEdges {
         owned.ship(0, 0, 1, 30, false);
         owned.link(0, 0, true);
         check.due("it is OWNED", owned.circles(), 1);
+    }
+
+    /** No SHIPMENT is left out: not one that is FAKE, VOID, paid or PUT OFF. */
+    private void goodsOfAnyShipment() {
+        Check check = said.chapter(7, "if there is a SHIPMENT of one of its POLICIES to that one");
+        Exportcover fake = pairs(1);
+        fake.link(0, 0, true);
+        fake.ship(0, 0, 1, 30, true);
+        check.due("a CIRCLE by a FAKE one", fake.circles(), 1);
+        check.due("SUSPECT, FAKE", fake.books(18), 1);
+        fake.inspect(0);
+        check.due("a CIRCLE by a VOID one", fake.circles(), 1);
+        check.due("SUSPECT, VOID", fake.books(18), 1);
+        Exportcover paid = pairs(1);
+        paid.link(0, 0, false);
+        paid.ship(0, 0, 1, 30, false);
+        paid.earn(0, 1);
+        paid.pay(0, 1);
+        check.due("a CIRCLE by a paid one", paid.circles(), 1);
+        check.due("SUSPECT, paid", paid.books(18), 1);
+        Exportcover putOff = pairs(1);
+        putOff.link(0, 0, false);
+        putOff.ship(0, 0, 1, 30, false);
+        putOff.pass(30);
+        putOff.club(0, 10, 1);
+        check.due("a CIRCLE by one PUT OFF", putOff.circles(), 1);
+        check.due("SUSPECT, PUT OFF", putOff.books(18), 1);
     }
 
     private void backToItself() {
